@@ -241,6 +241,8 @@ final class PromisesTest {
         x.tell(0, 0, 1, 5);
         x.tell(0, 1, 8, 21);
         Check.due("all is wrong", x.holds(0), 2);
+        x.tell(0, 0, -1, 5);
+        Check.due("it begins before the file", x.holds(0), 2);
         x.tell(0, 0, 0, 5);
         Check.due("its beginning is right", x.holds(0), 3);
         x.tell(0, 0, 0, 4);

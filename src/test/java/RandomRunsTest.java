@@ -15,6 +15,7 @@ final class RandomRunsTest {
     private final SignatureSpans program = new SignatureSpans();
     private final Model model = new Model();
     private final List<String> told = new ArrayList<>();
+    private final List<long[]> firstSpans = new ArrayList<>();
     private final int oddness;
     private int size;
     private int signatures;
@@ -143,11 +144,8 @@ final class RandomRunsTest {
         int i = number(2);
         boolean right = random.nextInt(8) != 0 && s >= 0 && s < signatures && (i == 0 || i == 1);
         long[] ends = right ? rightEnds(s, i) : new long[] {wide(size), wide(size)};
-        String answer = same("tell", () -> tell(program, s, i, ends), () -> tell(model, s, i, ends));
-        return answer;
+        return same("tell", () -> tell(program, s, i, ends), () -> tell(model, s, i, ends));
     }
-
-    private final List<long[]> firstSpans = new ArrayList<>();
 
     private long[] rightEnds(int s, int i) {
         long[] four = firstSpans.get(s);

@@ -6,8 +6,14 @@ final class Check {
 
     private static int passed;
     private static int wrong;
+    private static String begun = "";
 
     private Check() {
+    }
+
+    /** The name of the test that begins here stands before the faults that it finds. */
+    static void begin(String name) {
+        begun = name + ": ";
     }
 
     static void due(String what, long got, long want) {
@@ -47,7 +53,7 @@ final class Check {
         }
         wrong++;
         if (wrong <= 50) {
-            System.out.println(fault);
+            System.out.println(begun + fault);
         }
     }
 }

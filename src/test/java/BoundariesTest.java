@@ -274,6 +274,30 @@ final class BoundariesTest {
         }
     }
 
+    private static void p05EachFieldThatHasOne() {
+        for (int n = 1; n < 8; n++) {
+            int count = n;
+            Boundary.Maker maker = () -> {
+                SignatureSpans x = Boundary.signedTimes(count);
+                x.place(39, 40);
+                return x;
+            };
+            for (int f = 0; f < count; f++) {
+                int field = f;
+                Boundary.refused("field " + f + " of " + n + " signed", Boundary.STATE, maker, x -> x.sign(field, true, 0));
+            }
+            Check.due("the next field", maker.make().sign(count, true, 0), count);
+        }
+    }
+
+    private static void p05AFieldThatIsFilledOrLockedHasNone() {
+        SignatureSpans x = Boundary.placedTimes(2);
+        x.sign(0, true, 0);
+        x.change(0, 6);
+        x.lock(0, 6);
+        Check.due("a field that is filled and locked", x.sign(6, true, 0), 1);
+    }
+
     private static void p05WhenThereAre8() {
         SignatureSpans x = Boundary.placedTimes(8);
         for (int n = 0; n < 8; n++) {

@@ -3,10 +3,16 @@ import java.util.List;
 import java.util.Random;
 import java.util.TreeMap;
 
-/** Random runs of 512 calls, each answer held against the model's; the seeds are fixed, so that every run comes again. */
+/**
+ * Random runs of 512 calls, each answer held against the model's; the seeds are fixed, so that every run comes again. Some go
+ * on far behind the 512th call: what is answered there is free, but the machine must not throw there either.
+ */
 final class RandomRunsTest {
     private static final int RUNS = 1500;
     private static final int CALLS = 512;
+    private static final int LONG_RUNS = 20;
+    private static final int LONG_CALLS = 4000;
+    private static final int FILE_IS_FULL = 1500;
     private static final long[] ODD = {
         -1, -2, Integer.MIN_VALUE, Integer.MAX_VALUE, 1L << 32, -(1L << 32), Long.MIN_VALUE, Long.MAX_VALUE,
     };
@@ -29,22 +35,26 @@ final class RandomRunsTest {
         TreeMap<String, Integer> seen = new TreeMap<>();
         for (int run = 0; run < RUNS; run++) {
             RandomRunsTest test = new RandomRunsTest(run);
-            test.run(run, seen);
+            test.run(run, CALLS, test.random.nextInt(100), seen);
+            test.compareAll(run);
+        }
+        for (int run = RUNS; run < RUNS + LONG_RUNS; run++) {
+            RandomRunsTest test = new RandomRunsTest(run);
+            test.run(run, LONG_CALLS, test.random.nextInt(FILE_IS_FULL + 100), seen);
             test.compareAll(run);
         }
         for (int verdict = 1; verdict <= 8; verdict++) {
             Check.isSo("runs reach holds " + verdict + ": " + seen, seen.getOrDefault("holds " + verdict, 0) >= 100);
         }
-        for (String call : new String[] {"chain", "change", "place", "sign", "stamp"}) {
+        for (String call : new String[] {"add", "chain", "change", "place", "sign", "stamp"}) {
             String full = call + " throws.UnsupportedOperationException";
             Check.isSo("runs reach " + full + ": " + seen, seen.getOrDefault(full, 0) >= 20);
         }
         Check.end();
     }
 
-    private void run(int run, TreeMap<String, Integer> seen) {
-        int first = random.nextInt(100);
-        for (int n = 0; n < CALLS; n++) {
+    private void run(int run, int calls, int first, TreeMap<String, Integer> seen) {
+        for (int n = 0; n < calls; n++) {
             int which = n < first ? 0 : random.nextInt(40);
             String answer = step(which);
             seen.merge(answer.startsWith("holds") || answer.contains("throws.") ? answer : "other", 1, Integer::sum);
